@@ -62,16 +62,13 @@ public final class WouldBeTest {
         Checks.is("of one that is lost", moving.meet(0, 0), 4);
 
         Plotroom far = withTrack(0);
-        far.station(0, 0);
         far.station(0, 199);
-        far.station(10, 220 - 100);
-        far.squadron(1, 5, 5, 50, 2);
+        far.squadron(0, 5, 5, 50, 2);
         far.flight(false, 199, 0, 0, 0, 5, 5);
-        far.flight(false, 140, 190, 0, 0, 5, 5);
         far.pass(1);
         Checks.is("281 by 5 in the air", far.meet(0, 1), -1);
         far.squadron(0, 5, 20, 50, 2);
-        Checks.is("199 by 20 in the air", far.meet(1, 1), 12);
+        Checks.is("281 by 20 in the air", far.meet(1, 1), 17);
     }
 
     private static void best() {
@@ -185,8 +182,8 @@ public final class WouldBeTest {
         room.pass(1);
         room.scramble(0, 1);
         room.call();
-        for (int i = 0; i < 20; i++) {
-            room.pass(1);
+        for (int minutes = 1; minutes <= 4; minutes++) {
+            room.pass(minutes * minutes);
             Checks.is("digest in minute " + room.room(0), room.digest(), Digests.of(room));
         }
     }
