@@ -35,11 +35,14 @@ final class Checks {
         note(room.digest() == before, what + " changed something as it threw");
     }
 
+    /** What the call throws, or null. What does not come from a throw of the class itself is wrong in any case. */
     static Class<?> thrownBy(Call call) {
         try {
             call.run();
             return null;
         } catch (RuntimeException e) {
+            StackTraceElement[] trace = e.getStackTrace();
+            note(trace.length > 0 && trace[0].getClassName().equals("Plotroom"), "not thrown by the class itself: " + e);
             return e.getClass();
         }
     }

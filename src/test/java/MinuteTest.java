@@ -11,6 +11,7 @@ public final class MinuteTest {
         trackLimit();
         lostTracks();
         flyOutAndBack();
+        turnsAsFuelIsBack();
         falls();
         targetLost();
         fight();
@@ -237,6 +238,21 @@ public final class MinuteTest {
         }
     }
 
+    private static void turnsAsFuelIsBack() {
+        Plotroom room = new Plotroom();
+        room.mast(60, 0, 20, 0, 0, 0);
+        room.flight(false, 60, 0, 0, 0, 1, 3);
+        room.station(0, 0);
+        room.squadron(0, 4, 5, 11, 1);
+        room.pass(1);
+        room.scramble(0, 0);
+        room.pass(5);
+        squadron(room, 2, 20, 0, 7, 4);
+        Checks.is("fuel is back", room.ofSquadron(0, 8), 7);
+        room.pass(1);
+        squadron(room, 3, 15, 0, 6, 4);
+    }
+
     /** Steps rounded toward 0 make the way back of a slow one longer than it is reckoned. */
     private static void falls() {
         Plotroom room = new Plotroom();
@@ -256,6 +272,7 @@ public final class MinuteTest {
         Checks.is("back at 156, 156", room.ofSquadron(0, 8), 48);
         room.pass(46);
         squadron(room, 3, 18, 18, 1, 7);
+        Checks.is("sound with the last fuel", room.isSound(), true);
         room.pass(1);
         squadron(room, 0, 0, 0, 99, 0);
         Checks.is("machines lost", room.room(15), 7);
@@ -335,6 +352,11 @@ public final class MinuteTest {
         Plotroom more = atStation(true, 99, 3);
         fights(more, 98, 1, 1, 1, 2, 6);
         squadron(more, 2, 100, 100, 50, 1);
+        Checks.is("sound with the last machine", more.isSound(), true);
+        fights(atStation(true, 46, 12), 40, 1, 6, 9, 1, 6);
+        fights(atStation(true, 45, 12), 39, 1, 6, 9, 0, 6);
+        fights(atStation(true, 7, 12), 1, 1, 6, 9, 0, 6);
+        fights(atStation(true, 6, 12), 0, 1, 6, 9, 0, 5);
     }
 
     /** The mast sees the own flight alone, so that the squadron stays at its station. */

@@ -139,6 +139,7 @@ public final class OrdersTest {
             Checks.is("scramble", room.scramble(i, 0), 4);
         }
         Checks.is("talks", room.room(11), 3);
+        Checks.is("sound with 3", room.isSound(), true);
         Checks.refuses(room, "a fourth talk", Checks.STATE, () -> room.scramble(3, 0));
         room.pass(4);
         Checks.is("talks to those that are up", room.room(11), 3);

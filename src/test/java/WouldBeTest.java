@@ -2,6 +2,8 @@
 public final class WouldBeTest {
     public static void main(String[] args) {
         meet();
+        meetSouthward();
+        meetLast();
         best();
         wouldWin();
         wouldSound();
@@ -60,6 +62,36 @@ public final class WouldBeTest {
         moving.pass(8);
         Checks.is("lost", moving.ofTrack(0, 7), 0);
         Checks.is("of one that is lost", moving.meet(0, 0), 4);
+    }
+
+    private static void meetSouthward() {
+        Plotroom room = new Plotroom();
+        room.mast(100, 100, 150, 0, 0, 0);
+        room.flight(true, 100, 10, 0, 4, 5, 20);
+        room.station(100, 50);
+        room.squadron(0, 5, 7, 10, 2);
+        room.squadron(0, 5, 5, 10, 10);
+        room.pass(2);
+        Checks.is("24 by 11 of one that comes, 2 of it waited", room.meet(0, 0), 5);
+        Checks.is("8 by 1 of one that has passed, 10 of it waited", room.meet(1, 0), 18);
+        Checks.is("the first one alone has fuel for it", room.best(0), 0);
+        room.squadron(0, 1, 20, 10, 2);
+        Checks.is("24 by 24 of one that comes, 2 of it waited", room.meet(2, 0), 3);
+        Checks.is("the third one is there sooner", room.best(0), 2);
+    }
+
+    private static void meetLast() {
+        Plotroom room = new Plotroom();
+        room.mast(100, 100, 150, 0, 0, 0);
+        room.flight(false, 100, 150, 0, 0, 5, 5);
+        room.flight(false, 100, 48, 0, 0, 5, 5);
+        room.station(100, 0);
+        room.station(100, 199);
+        room.squadron(0, 1, 5, 99, 1);
+        room.squadron(1, 1, 5, 99, 1);
+        room.pass(1);
+        Checks.is("150 by 5 in the air", room.meet(0, 0), 31);
+        Checks.is("151 by 5 in the air", room.meet(1, 1), -1);
 
         Plotroom far = withTrack(0);
         far.station(0, 199);
@@ -150,6 +182,11 @@ public final class WouldBeTest {
         Checks.is("a minute nearer", room.wouldSound(1), 30);
         room.pass(6);
         Checks.is("lost", room.wouldSound(1), -1);
+        room.wire(0, false);
+        room.flight(false, 12, 199, 0, -4, 5, 19);
+        room.flight(false, 150, 10, 0, 0, 5, 19);
+        room.pass(3);
+        Checks.is("66 by 4 of one that comes, less 8, and one that never comes", room.wouldSound(5), 9);
         Checks.refuses(room, "wouldSound(6)", Checks.INDEX, () -> room.wouldSound(6));
         Checks.refuses(room, "wouldSound(-1)", Checks.INDEX, () -> room.wouldSound(-1));
     }
