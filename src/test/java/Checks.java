@@ -4,6 +4,20 @@ final class Checks {
         void run();
     }
 
+    /** A call that gets one value; all else in it is as it should be. */
+    interface Given {
+        void call(Plotroom room, int value);
+    }
+
+    interface Told {
+        void call(Plotroom room);
+    }
+
+    /** Makes the same room each time. */
+    interface Rooms {
+        Plotroom make();
+    }
+
     static final Class<?> INDEX = IndexOutOfBoundsException.class;
     static final Class<?> ARGUMENT = IllegalArgumentException.class;
     static final Class<?> STATE = IllegalStateException.class;
@@ -35,6 +49,26 @@ final class Checks {
         note(room.digest() == before, what + " changed something as it threw");
     }
 
+    /** The call throws exactly this class, and all that the room does later is as if it had not been called. */
+    static void refusesForGood(Rooms rooms, String what, Class<?> due, Told told) {
+        Plotroom room = rooms.make();
+        Class<?> got = thrownBy(() -> told.call(room));
+        note(got == due, what + " threw " + got + ", due is " + due);
+        isText(what + ", and what comes later", Stories.of(room), Stories.of(rooms.make()));
+    }
+
+    /** The values from least to most are taken; the ones beside them and the farthest ones are refused. */
+    static void edges(Rooms rooms, String what, Class<?> due, int least, int most, Given given) {
+        for (int value : new int[] {least, most}) {
+            Plotroom room = rooms.make();
+            Class<?> got = thrownBy(() -> given.call(room, value));
+            note(got == null, what + " with " + value + " threw " + got);
+        }
+        for (int value : new int[] {least - 1, most + 1, Integer.MIN_VALUE, Integer.MAX_VALUE}) {
+            refusesForGood(rooms, what + " with " + value, due, room -> given.call(room, value));
+        }
+    }
+
     /** What the call throws, or null. What does not come from a throw of the class itself is wrong in any case. */
     static Class<?> thrownBy(Call call) {
         try {
@@ -42,9 +76,13 @@ final class Checks {
             return null;
         } catch (RuntimeException e) {
             StackTraceElement[] trace = e.getStackTrace();
-            note(trace.length > 0 && trace[0].getClassName().equals("Plotroom"), "not thrown by the class itself: " + e);
+            note(trace.length > 0 && isOwn(trace[0].getClassName()), "not thrown by the class itself: " + e);
             return e.getClass();
         }
+    }
+
+    private static boolean isOwn(String className) {
+        return className.equals("Plotroom") || className.startsWith("Plotroom$");
     }
 
     static void note(boolean isRight, String text) {
