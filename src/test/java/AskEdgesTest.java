@@ -21,6 +21,7 @@ public final class AskEdgesTest {
         seenParts();
         seenOfNone();
         meetFromNothingToThirty();
+        meetOfOneThatMoves();
         meetEachState();
         meetOfLost();
         bestFuel();
@@ -30,6 +31,7 @@ public final class AskEdgesTest {
         wouldWinWhateverTheyAre();
         wouldSoundFromNothingToThirty();
         wouldSoundOfLiveAndHostile();
+        wouldSoundOfSeveral();
         soundInEachRoom();
         digests();
         asksChangeNothing();
@@ -354,21 +356,25 @@ public final class AskEdgesTest {
         Checks.isPart("beyond it", moving.seen(), 0.75);
     }
 
-    private static void seenParts() {
+    /** One flight is on the table, the others are far from it. */
+    private static Plotroom withOneSeenOf(int all) {
         Plotroom room = new Plotroom();
         room.mast(100, 100, 5, 5, 0, 0);
         room.flight(true, 100, 100, 0, 0, 9, 9);
         Checks.isPart("none of one", room.seen(), 0.0);
         room.pass(1);
-        for (int all = 1; all <= 11; all++) {
+        for (int i = 1; i < all; i++) {
+            room.flight(i % 2 == 0, 10, 10, 0, 0, 1, 1);
+        }
+        return room;
+    }
+
+    private static void seenParts() {
+        for (int all = 1; all <= 12; all++) {
+            Plotroom room = withOneSeenOf(all);
             Checks.isPart("one of " + all, room.seen(), 1.0 / all);
             Checks.is("digest with one of " + all, room.digest(), Digests.of(room));
-            if (all % 4 == 0) {
-                room.call();
-            }
-            room.flight(all % 2 == 0, 10, 10, 0, 0, 1, 1);
         }
-        Checks.isPart("one of 12", room.seen(), 1.0 / 12);
     }
 
     private static void seenOfNone() {
@@ -413,6 +419,22 @@ public final class AskEdgesTest {
         Checks.is("151 by 6", meetAt(6, 151, 0), 27);
         Checks.is("20 by 20", meetAt(20, 20, 0), 2);
         Checks.is("21 by 20", meetAt(20, 0, 21), 3);
+    }
+
+    /** A track that comes by 4 a minute by x and by y, 60 away by both as squadron 0 with READY 5 would come up. */
+    private static void meetOfOneThatMoves() {
+        int[][] due = {{5, 8}, {10, 6}, {20, 4}};
+        for (int[] d : due) {
+            Plotroom room = new Plotroom();
+            room.mast(100, 100, 150, 0, 0, 0);
+            room.flight(false, 12, 12, 4, 4, 5, 9);
+            room.station(100, 100);
+            room.squadron(0, 6, d[0], 99, 5);
+            room.pass(2);
+            Checks.is("x as it would come up", room.where(0, 7, false), 40);
+            Checks.is("meet with speed " + d[0], room.meet(0, 0), 5 + d[1]);
+            Checks.is("best", room.best(0), 0);
+        }
     }
 
     private static Plotroom forMeet(int ready) {
@@ -651,13 +673,47 @@ public final class AskEdgesTest {
         Checks.is("three hits", two.wouldSound(0), 7);
     }
 
+    /** The first of all tracks that come near makes the siren sound, whichever number it has. */
+    private static void wouldSoundOfSeveral() {
+        for (int first = 0; first < 3; first++) {
+            Plotroom room = new Plotroom();
+            room.mast(100, 100, 150, 0, 0, 0);
+            int[] eastward = {3, 3, 3};
+            eastward[first] = 5;
+            for (int i = 0; i < 3; i++) {
+                room.flight(true, 0, 60 + 40 * i, eastward[i], 0, 5, 9);
+                room.town(90, 60 + 40 * i, 10 + i);
+            }
+            room.town(199, 0, 1);
+            room.pass(3);
+            for (int i = 0; i < 3; i++) {
+                Checks.is("its own track", room.wouldSound(i), i == first ? 5 : 16);
+            }
+            Checks.is("too far", room.wouldSound(3), -1);
+        }
+        for (int first = 0; first < 2; first++) {
+            Plotroom room = new Plotroom();
+            room.mast(100, 100, 150, 0, 0, 0);
+            room.flight(true, 0, 100, first == 0 ? 5 : 3, 0, 5, 9);
+            room.flight(true, 199, 100, first == 0 ? -3 : -5, 0, 5, 9);
+            room.flight(true, 100, 0, 0, 2, 5, 9);
+            room.town(100, 100, 9);
+            room.pass(3);
+            Checks.is("the first of three", room.wouldSound(0), 7);
+        }
+    }
+
     private static void soundInEachRoom() {
         Checks.is("an empty one", new Plotroom().isSound(), true);
         Plotroom[] rooms = {Rooms.lively(), Rooms.full()};
         for (Plotroom room : rooms) {
             for (int i = 0; i < 40; i++) {
                 Checks.is("sound in minute " + room.room(0), room.isSound(), true);
+                room.wire(i % 3, i % 2 == 0);
                 room.pass(1 + i % 3);
+            }
+            for (int mast = 0; mast < 3; mast++) {
+                Checks.is("plots are lost", room.ofMast(mast, 9) > 0, true);
             }
         }
     }

@@ -83,8 +83,10 @@ public final class CoastEdgesTest {
         Checks.refusesForGood(Plotroom::new, "wire of none", Checks.INDEX, room -> room.wire(0, true));
         Plotroom room = Rooms.full();
         Checks.is("whole at first", room.wire(4, true), false);
+        Checks.is("cut", room.ofMast(4, 6), 1);
         Checks.is("cut from then on", room.wire(4, true), true);
         Checks.is("whole again", room.wire(4, false), true);
+        Checks.is("whole", room.ofMast(4, 6), 0);
         Checks.is("whole twice", room.wire(4, false), false);
         Checks.is("whole as it is told so at first", room.wire(3, false), false);
         Checks.is("the first one is another", room.wire(0, false), false);

@@ -19,6 +19,7 @@ public final class FightEdgesTest {
         wonIsNoMoreThanCount();
         secondDrawOnlyIfSomeAreLeft();
         machinesAreNoLessThanNone();
+        machinesLostInAll();
         groundedWithoutMachines();
         claimsOfEachFight();
         fightsInTheirOrder();
@@ -371,6 +372,7 @@ public final class FightEdgesTest {
             Checks.is("count of " + count, room.ofFlight(1, 5), count - won);
             Checks.is("up of " + count, room.ofFlight(1, 6), count > 6 ? 1 : 0);
             Checks.is("foes up", room.room(2), count > 6 ? 1 : 0);
+            Checks.is("counts of foes up", room.room(3), count - won);
         }
     }
 
@@ -393,6 +395,19 @@ public final class FightEdgesTest {
             Checks.is(name + ", lost", room.room(15), d[0] - d[2]);
             Checks.is(name + ", state", room.ofSquadron(0, 2), d[2] > 0 ? 2 : 0);
             Checks.is(name + ", sound", room.isSound(), true);
+        }
+    }
+
+    /** Behind 55, with which 86 - 6 cost two, the second fight draws 142 and 84, the third 60 and 76. */
+    private static void machinesLostInAll() {
+        Plotroom room = withFoe(12, 0, 0, 86);
+        int[] counts = {80, 73, 71};
+        int[] machines = {10, 10, 3};
+        for (int i = 0; i < counts.length; i++) {
+            Checks.is("count after fight " + i, room.ofFlight(1, 5), counts[i]);
+            Checks.is("machines after fight " + i, room.ofSquadron(0, 1), machines[i]);
+            Checks.is("machines lost after fight " + i, room.room(15), 12 - machines[i]);
+            room.pass(1);
         }
     }
 
@@ -451,6 +466,7 @@ public final class FightEdgesTest {
             Checks.is("fights", room.room(12), count > 6 ? 2 : 1);
             Checks.is("won by the first one", room.ofSquadron(0, 9), Math.min(count, 6));
             Checks.is("won by the second one", room.ofSquadron(1, 9), count > 6 ? 1 : 0);
+            Checks.is("won by both", room.room(13), count);
             Checks.is("drawn", room.room(19), count > 6 ? 7 : 5);
             Checks.is("count", room.ofFlight(1, 5), 0);
         }

@@ -111,6 +111,7 @@ public final class SkyEdgesTest {
             room.pass(1);
             Checks.is("count in minute " + (i + 1), room.ofFlight(0, 5), due[i]);
             Checks.is("up in minute " + (i + 1), room.ofFlight(0, 6), due[i] > 0 ? 1 : 0);
+            Checks.is("counts of foes in minute " + (i + 1), room.room(3), due[i]);
         }
         Checks.is("where it was last", room.ofFlight(0, 0), 54);
         Checks.is("nothing is drawn for one that is gone", room.room(19), 4);
