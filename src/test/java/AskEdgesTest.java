@@ -386,6 +386,11 @@ public final class AskEdgesTest {
         Checks.isPart("without flights that are up", room.seen(), 1.0);
         room.flight(true, 10, 10, 0, 0, 5, 9);
         Checks.isPart("none of one that is up", room.seen(), 0.0);
+        Plotroom gone = seenAtFive();
+        gone.flight(true, 199, 199, 1, 1, 5, 9);
+        Checks.isPart("one of two", gone.seen(), 0.5);
+        gone.pass(1);
+        Checks.isPart("one of one that is up", gone.seen(), 1.0);
         Plotroom lost = seenAtFive();
         Checks.isPart("by a live track", lost.seen(), 1.0);
         lost.pass(4);

@@ -11,6 +11,8 @@ public final class SkyEdgesTest {
         plotsAreHeld();
         guessOfCounts();
         greaterGuessStays();
+        guessAsItWasMade();
+        mastByMast();
         lagOfMasts();
         wireWhenThePlotIsDue();
         wireOfItsOwnMast();
@@ -216,6 +218,44 @@ public final class SkyEdgesTest {
         room.flight(true, 100, 100, 0, 0, 5, 20);
         room.pass(1);
         track(room, 0, 100, 100, 4, 0, 0, 20, 5);
+    }
+
+    /** The gun brings the count to 9 in minute 2, so the plots of minutes 1 and 2 have a guess of 10, that of minute 3 has 9. */
+    private static void guessAsItWasMade() {
+        Plotroom room = withMast(3);
+        room.flight(true, 100, 100, 0, 0, 5, 10);
+        room.gun(100, 100, 5);
+        room.pass(3);
+        Checks.is("count by then", room.ofFlight(0, 5), 9);
+        room.pass(1);
+        track(room, 0, 100, 100, 1, 0, 0, 10, 1);
+
+        Plotroom late = withMast(3);
+        late.flight(true, 100, 100, 0, 0, 5, 10);
+        late.gun(100, 100, 5);
+        late.wire(0, true);
+        late.pass(5);
+        late.wire(0, false);
+        late.pass(1);
+        track(late, 0, 100, 100, 3, 0, 0, 9, 1);
+    }
+
+    /** The first mast draws 11, 130 and 171, 175 for both flights, the second one 146, 55 and 52, 134. */
+    private static void mastByMast() {
+        Plotroom room = new Plotroom();
+        room.mast(100, 100, 50, 0, 0, 0);
+        room.mast(100, 100, 50, 0, 9, 1);
+        room.flight(true, 80, 80, 0, 0, 5, 1);
+        room.flight(true, 120, 120, 0, 0, 5, 1);
+        room.gate(1);
+        room.pass(1);
+        track(room, 0, 80, 80, 1);
+        track(room, 1, 120, 120, 1);
+        room.pass(1);
+        Checks.is("drawn", room.room(19), 16);
+        Checks.is("the plots of the second mast are far from both", room.room(4), 4);
+        track(room, 2, 80 + 146 % 19 - 9, 80 + 55 % 19 - 9, 1);
+        track(room, 3, 120 + 52 % 19 - 9, 120 + 134 % 19 - 9, 1);
     }
 
     private static void lagOfMasts() {
