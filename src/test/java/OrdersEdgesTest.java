@@ -476,6 +476,10 @@ public final class OrdersEdgesTest {
         Checks.is("and nothing else", room.room(0) + room.room(19), 0);
         Plotroom last = atMinute(1000);
         Checks.is("call at 1000", last.call(), 1);
+        Plotroom used = new Plotroom();
+        for (int i = 1; i <= 512; i++) {
+            Checks.is("each of 512 calls is answered", used.call(), i);
+        }
     }
 
     private OrdersEdgesTest() {
