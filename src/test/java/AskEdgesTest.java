@@ -12,6 +12,7 @@ public final class AskEdgesTest {
         whereLastMinute();
         whereAtTheLastMinute();
         truthNearest();
+        truthByXAndByY();
         truthOfNone();
         tableRows();
         tableCells();
@@ -25,6 +26,7 @@ public final class AskEdgesTest {
         meetEachState();
         meetOfLost();
         bestFuel();
+        bestByReady();
         bestOnlyGrounded();
         bestSoonest();
         wouldWinLots();
@@ -246,6 +248,31 @@ public final class AskEdgesTest {
         Checks.is("the last one", truthOf(137, 136, 136, 135), 2);
     }
 
+    /** Track 0 was at 46, 112 and should be at 61, 92 now; its own flight has turned away, two others are so placed. */
+    private static int truthAhead(int x, int y, int otherX, int otherY) {
+        Plotroom room = new Plotroom();
+        room.mast(100, 100, 150, 0, 0, 0);
+        room.flight(true, 40, 120, 3, -4, 9, 9);
+        room.pass(2);
+        room.bend(0, 9, 9);
+        room.wire(0, true);
+        room.pass(5);
+        room.flight(true, x, y, 0, 0, 5, 1);
+        room.flight(false, otherX, otherY, 0, 0, 5, 1);
+        Checks.is("where it should be by x", room.where(0, 7, false), 61);
+        Checks.is("where it should be by y", room.where(0, 7, true), 92);
+        return room.truth(0);
+    }
+
+    private static void truthByXAndByY() {
+        Checks.is("nearer to where it should be", truthAhead(66, 92, 61, 88), 2);
+        Checks.is("as far by y", truthAhead(61, 95, 61, 89), 1);
+        Checks.is("nearer by y", truthAhead(61, 96, 61, 89), 2);
+        Checks.is("as far by x", truthAhead(58, 92, 64, 92), 1);
+        Checks.is("nearer by x", truthAhead(57, 92, 64, 92), 2);
+        Checks.is("as far by x as by y", truthAhead(61, 89, 64, 92), 1);
+    }
+
     private static void truthOfNone() {
         Plotroom room = seenAtFive();
         Checks.is("its flight", room.truth(0), 0);
@@ -325,9 +352,16 @@ public final class AskEdgesTest {
         Checks.isText("live", room.table(5), ".....1....");
         room.pass(1);
         Checks.isText("lost", room.table(5), "..........");
-        Plotroom moving = seenAtFive();
-        Checks.isText("by its place, not where it should be", moving.table(5), ".....1....");
-        Checks.isText("not where it should be", moving.table(4), "..........");
+        Plotroom moving = new Plotroom();
+        moving.mast(100, 100, 150, 0, 0, 0);
+        moving.flight(true, 58, 43, 4, 3, 5, 9);
+        moving.pass(5);
+        moving.wire(0, true);
+        moving.pass(3);
+        Checks.is("it should be farther by x", moving.where(0, 8, false), 90);
+        Checks.is("it should be farther by y", moving.where(0, 8, true), 67);
+        Checks.isText("by its place", moving.table(2), "...1......");
+        Checks.isText("not where it should be", moving.table(3), "..........");
     }
 
     private static double seenAt(int byX, int byY) {
@@ -352,8 +386,16 @@ public final class AskEdgesTest {
         moving.flight(false, 126, 97, 0, 0, 1, 1);
         Checks.isPart("within 20 of where it should be", moving.seen(), 1.0);
         moving.flight(false, 86, 97, 0, 0, 1, 1);
+        Checks.isPart("within 20 behind it", moving.seen(), 1.0);
+        moving.flight(false, 106, 77, 0, 0, 1, 1);
+        moving.flight(false, 106, 117, 0, 0, 1, 1);
+        Checks.isPart("within 20 beside it", moving.seen(), 1.0);
         moving.flight(false, 127, 97, 0, 0, 1, 1);
-        Checks.isPart("beyond it", moving.seen(), 0.75);
+        Checks.isPart("beyond it", moving.seen(), 5.0 / 6);
+        moving.flight(false, 85, 97, 0, 0, 1, 1);
+        moving.flight(false, 106, 76, 0, 0, 1, 1);
+        moving.flight(false, 106, 118, 0, 0, 1, 1);
+        Checks.isPart("beyond it on each side", moving.seen(), 5.0 / 9);
     }
 
     /** One flight is on the table, the others are far from it. */
@@ -515,6 +557,23 @@ public final class AskEdgesTest {
             Checks.is("30 in the air, fuel 63", bestWith(63, ready, 150), 0);
             Checks.is("31 in the air, fuel 99", bestWith(99, ready, 151), -1);
         }
+    }
+
+    /** The track comes by 4 a minute: as of now 13 minutes in the air would be needed, after READY only 8. */
+    private static int bestOfOneThatComes(int fuel) {
+        Plotroom room = new Plotroom();
+        room.mast(100, 100, 150, 0, 0, 0);
+        room.flight(false, 30, 100, 4, 0, 5, 9);
+        room.station(150, 100);
+        room.squadron(0, 6, 5, fuel, 10);
+        room.pass(2);
+        Checks.is("ready and the way", room.meet(0, 0), 18);
+        return room.best(0);
+    }
+
+    private static void bestByReady() {
+        Checks.is("8 in the air, fuel 18", bestOfOneThatComes(18), -1);
+        Checks.is("8 in the air, fuel 19", bestOfOneThatComes(19), 0);
     }
 
     private static void bestOnlyGrounded() {

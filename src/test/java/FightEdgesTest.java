@@ -5,10 +5,12 @@ public final class FightEdgesTest {
         comingUpIsAllOfATurn();
         goesWithinSpeed();
         goesByRoot();
+        goesToWhereItShouldBe();
         backIsCounted();
         turnsAsFuelIsBack();
         turnsAsTrackIsLost();
         turningTakesTwelve();
+        homeAtItsStation();
         landsWithTheLastFuel();
         fallsWithTheLastFuel();
         fightsWithinSix();
@@ -123,6 +125,24 @@ public final class FightEdgesTest {
         goes(20, 60, 81, 11, 16);
     }
 
+    /** The track was at 68, 134 in minute 2 and goes by 4 and -3; the squadron needs no more than a turn to be with it. */
+    private static void goesToWhereItShouldBe() {
+        Plotroom room = new Plotroom();
+        room.mast(100, 100, 150, 0, 0, 0);
+        room.flight(false, 60, 140, 4, -3, 5, 9);
+        room.station(80, 120);
+        room.squadron(0, 6, 20, 50, 1);
+        room.pass(2);
+        room.wire(0, true);
+        room.scramble(0, 0);
+        room.pass(1);
+        squadron(room, 0, 2, 80, 120, 50, 6);
+        for (int i = 1; i <= 5; i++) {
+            room.pass(1);
+            squadron(room, 0, 2, 72 + 4 * i, 131 - 3 * i, 50 - i, 6);
+        }
+    }
+
     private static void backIsCounted() {
         int[][] due = {{5, 0, 3}, {5, 1, 4}, {5, 5, 4}, {5, 6, 5}, {5, 10, 5}, {20, 20, 4}, {20, 21, 5}, {20, 40, 5}, {20, 41, 6}};
         for (int[] d : due) {
@@ -201,6 +221,22 @@ public final class FightEdgesTest {
         room.pass(1);
         squadron(room, 0, 0, 100, 100, 50, 6);
         Checks.is("due no more", room.ofSquadron(0, 7), -1);
+    }
+
+    /** Straight above its station, or beside it, it is on its way still. */
+    private static void homeAtItsStation() {
+        int[][] ways = {{0, 20}, {0, -20}, {20, 0}, {-20, 0}};
+        for (int[] way : ways) {
+            Plotroom room = toward(100 + way[0], 120 + way[1], 100, 120, 10, 50, 1);
+            room.scramble(0, 0);
+            room.pass(3);
+            squadron(room, 0, 2, 100 + way[0], 120 + way[1], 48, 6);
+            room.back(0);
+            room.pass(1);
+            squadron(room, 0, 3, 100 + way[0] / 2, 120 + way[1] / 2, 47, 6);
+            room.pass(1);
+            squadron(room, 0, 4, 100, 120, 50, 6);
+        }
     }
 
     /** Toward 100, 100 it makes 3 by x and by y of each 5; with 30 of fuel it turns at 45, 45 and needs all that it has left. */

@@ -31,6 +31,7 @@ public final class SkyEdgesTest {
         planRadiusIsCounted();
         planOfTrackMinute();
         friendlySquadron();
+        friendByItsPlace();
         hostileFromThreeHits();
         Checks.end();
     }
@@ -642,6 +643,39 @@ public final class SkyEdgesTest {
             Checks.is("at 9 by y, state " + state, kindBeside(0, 9, state), 2);
             Checks.is("at 5 and 6, state " + state, kindBeside(5, 6, state), isInAir ? 0 : 2);
             Checks.is("at 6 and 6, state " + state, kindBeside(6, 6, state), 2);
+        }
+    }
+
+    /**
+     * In minute 4 track 1 was at 97, 110 and should be at 100, 110 (or with x for y, if isTurned);
+     * squadron 0 is up at the given place.
+     */
+    private static Plotroom movedOn(boolean isTurned, int x, int y) {
+        Plotroom room = withMast(0);
+        room.flight(false, 100, 100, 0, 0, 5, 3);
+        room.flight(true, isTurned ? 110 : 88, isTurned ? 88 : 110, isTurned ? 0 : 3, isTurned ? 3 : 0, 5, 3);
+        room.station(isTurned ? y : x, isTurned ? x : y);
+        room.squadron(0, 6, 10, 50, 1);
+        room.pass(3);
+        room.wire(0, true);
+        room.scramble(0, 0);
+        room.pass(1);
+        Checks.is("its place", room.ofTrack(1, isTurned ? 1 : 0), 97);
+        Checks.is("where it should be", room.where(1, 4, isTurned), 100);
+        Checks.is("up", room.ofSquadron(0, 2), 2);
+        return room;
+    }
+
+    private static void friendByItsPlace() {
+        for (boolean isTurned : new boolean[] {false, true}) {
+            Checks.is("8 behind its place", movedOn(isTurned, 89, 110).ofTrack(1, 8), 0);
+            Checks.is("8 ahead of its place", movedOn(isTurned, 105, 110).ofTrack(1, 8), 0);
+            Checks.is("9 ahead of its place", movedOn(isTurned, 106, 110).ofTrack(1, 8), 2);
+            Plotroom room = movedOn(isTurned, 20, 20);
+            room.plan(0, 9, isTurned ? 110 : 100, isTurned ? 100 : 110, 2);
+            Checks.is("a plan where it should be", room.ofTrack(1, 8), 2);
+            room.plan(0, 9, isTurned ? 110 : 97, isTurned ? 97 : 110, 2);
+            Checks.is("a plan at its place", room.ofTrack(1, 8), 0);
         }
     }
 
