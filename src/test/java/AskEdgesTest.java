@@ -9,6 +9,7 @@ public final class AskEdgesTest {
         roomCounts();
         controllerAndAir();
         whereMinutes();
+        whereRoundsTowardNothing();
         whereLastMinute();
         whereAtTheLastMinute();
         truthNearest();
@@ -198,6 +199,27 @@ public final class AskEdgesTest {
         Checks.is("y later", room.where(0, 104, true), 1);
         Checks.is("y at 0", room.where(0, 105, true), 0);
         Checks.is("y held to 0", room.where(0, 106, true), 0);
+    }
+
+    /** A track whose COURSE is 15 or -15 tenths, by x and by y. */
+    private static void whereRoundsTowardNothing() {
+        for (int byX = -1; byX <= 1; byX += 2) {
+            for (int byY = -1; byY <= 1; byY += 2) {
+                Plotroom room = new Plotroom();
+                room.mast(100, 100, 150, 0, 0, 0);
+                room.flight(true, 100, 90, byX, byY, 5, 9);
+                room.pass(2);
+                room.bend(0, 2 * byX, 2 * byY);
+                room.pass(1);
+                Checks.is("course by x", room.ofTrack(0, 3), 15 * byX);
+                Checks.is("course by y", room.ofTrack(0, 4), 15 * byY);
+                int[] due = {0, 1, 3, 4, 6, 7};
+                for (int n = 0; n < due.length; n++) {
+                    Checks.is("x " + n + " later", room.where(0, 3 + n, false), 100 + (4 + due[n]) * byX);
+                    Checks.is("y " + n + " later", room.where(0, 3 + n, true), 90 + (4 + due[n]) * byY);
+                }
+            }
+        }
     }
 
     private static void whereLastMinute() {

@@ -782,6 +782,8 @@ public final class FightEdgesTest {
         Checks.is("2 for the plot, 1 for the fight, 1 for the gun", fire.room(19), 10);
         Checks.is("142 does not hit", fire.ofFlight(2, 5), 40);
 
+        fightsAheadOfGuns();
+
         Plotroom lives = new Plotroom();
         lives.town(100, 100, 10);
         lives.gun(100, 100, 5);
@@ -790,6 +792,26 @@ public final class FightEdgesTest {
         Checks.is("lives of the first minute", lives.room(18), 1);
         lives.pass(1);
         Checks.is("guns are ahead of the towns", lives.room(18), 1);
+    }
+
+    /** The fight has 146 and 55 (4 won, 46 / 40 lost); the gun, which the squadron is not near, has 52. */
+    private static void fightsAheadOfGuns() {
+        Plotroom room = new Plotroom();
+        room.mast(100, 100, 20, 5, 0, 0);
+        room.flight(false, 100, 100, 0, 0, 6, 9);
+        room.flight(true, 105, 100, 0, 0, 5, 50);
+        room.station(100, 100);
+        room.squadron(0, 8, 10, 50, 1);
+        room.gun(110, 100, 5);
+        room.lend(0, true);
+        room.pass(1);
+        room.lend(0, false);
+        room.scramble(0, 0);
+        room.pass(1);
+        Checks.is("4 for the plots, 2 for the fight, 1 for the gun", room.room(19), 7);
+        Checks.is("won with 146", room.room(13), 4);
+        Checks.is("52 does not hit", room.ofFlight(1, 5), 46);
+        Checks.is("machines with 55", room.ofSquadron(0, 1), 7);
     }
 
     private FightEdgesTest() {

@@ -18,6 +18,7 @@ public final class OrdersEdgesTest {
         leadOnlyOrderedOrUp();
         leadLiveTracks();
         leadAnswers();
+        leadKeepsAllElse();
         backNumbers();
         backOnlyOrderedOrUp();
         reinforceArguments();
@@ -375,6 +376,32 @@ public final class OrdersEdgesTest {
         Checks.is("of one", room.ofSquadron(0, 6), 0);
         Checks.is("of the other one", room.ofSquadron(1, 6), 1);
         Checks.is("one for each", room.ofTrack(0, 10), 1);
+    }
+
+    /** Led in the last minute ahead of that in which it is due, it comes up as it would have. */
+    private static void leadKeepsAllElse() {
+        Plotroom room = new Plotroom();
+        room.mast(100, 100, 150, 0, 0, 0);
+        room.flight(false, 100, 100, 0, 0, 5, 20);
+        room.flight(false, 120, 140, 0, 0, 5, 20);
+        room.station(120, 100);
+        room.squadron(0, 6, 10, 50, 3);
+        room.pass(1);
+        Checks.is("up at", room.scramble(0, 0), 4);
+        room.pass(2);
+        Checks.is("lead", room.lead(0, 1), 0);
+        Checks.is("ordered still", room.ofSquadron(0, 2), 1);
+        Checks.is("due as it was", room.ofSquadron(0, 7), 4);
+        room.pass(1);
+        Checks.is("up", room.ofSquadron(0, 2), 2);
+        room.pass(2);
+        Checks.is("y on its way to the other one", room.ofSquadron(0, 4), 120);
+        Checks.is("lead one that is up", room.lead(0, 0), 1);
+        Checks.is("not due", room.ofSquadron(0, 7), -1);
+        Checks.is("x where it was", room.ofSquadron(0, 3), 120);
+        Checks.is("y where it was", room.ofSquadron(0, 4), 120);
+        Checks.is("with the fuel it had", room.ofSquadron(0, 5), 48);
+        Checks.is("talks to one", room.room(11), 1);
     }
 
     private static void backNumbers() {
